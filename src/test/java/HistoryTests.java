@@ -1,0 +1,251 @@
+/** Promises 22 undo, 23 save and 24 restore. */
+public final class HistoryTests {
+    public static void main(String[] args) {
+        everyChange();
+        everythingIsUndone();
+        sixStates();
+        changesThatAlterNothing();
+        errorsRecordNothing();
+        questionsRecordNothing();
+        whatUndoLeaves();
+        saving();
+        savingThatIsRefused();
+        restoring();
+        restoringThatIsRefused();
+        slotsStay();
+        Due.finish();
+    }
+
+    private static void everyChange() {
+        PaddleRows rows = new PaddleRows();
+        Due.due("undo of nothing", rows.undo(), -5);
+        rows.set(0, 5);
+        Due.due("changes", rows.count(12), 1);
+        rows.paddle(1, 0, 1, 1, 0);
+        Due.due("changes", rows.count(12), 2);
+        rows.again(1);
+        Due.due("changes", rows.count(12), 3);
+        rows.gauge(1);
+        Due.due("changes", rows.count(12), 4);
+        rows.level(1, 1);
+        Due.due("changes", rows.count(12), 5);
+        Due.due("undo", rows.undo(), 4);
+        rows.lift(1);
+        Due.due("changes", rows.count(12), 5);
+        Due.due("undo", rows.undo(), 4);
+        Due.due("the paddle is back", rows.count(1), 1);
+        rows.pass(1);
+        Due.due("changes", rows.count(12), 5);
+        rows.save(0);
+        rows.restore(0);
+        Due.due("changes", rows.count(12), 6);
+        Due.due("undo", rows.undo(), 5);
+        Tanks.write(rows, "l5=5");
+        rows.carryOut();
+        Due.due("changes", rows.count(12), 6);
+        for (int left = 5; left >= 0; left--) {
+            Due.due("undo", rows.undo(), left);
+        }
+        Due.due("undo of nothing", rows.undo(), -5);
+        Due.due("as it was", Tanks.seen(rows), Tanks.seen(new PaddleRows()));
+    }
+
+    private static void everythingIsUndone() {
+        PaddleRows rows = busyTank();
+        PaddleRows twin = busyTank();
+        rows.set(2, 1);
+        rows.paddle(1, 0, 9, 9, 9);
+        rows.lift(4);
+        rows.level(30, 9);
+        rows.gauge(30);
+        rows.pass(9);
+        for (int left = 5; left >= 0; left--) {
+            Due.due("undo", rows.undo(), left);
+        }
+        Due.due("all is as it was", seenWithoutHistory(rows), seenWithoutHistory(twin));
+        rows.pass(2);
+        twin.pass(2);
+        Due.due("it goes on from there", seenWithoutHistory(rows), seenWithoutHistory(twin));
+    }
+
+    private static String seenWithoutHistory(PaddleRows rows) {
+        String seen = Tanks.seen(rows);
+        int changes = seen.lastIndexOf(" c");
+        int fault = seen.lastIndexOf(" f");
+        return seen.substring(0, changes) + seen.substring(fault);
+    }
+
+    private static PaddleRows busyTank() {
+        PaddleRows rows = new PaddleRows();
+        rows.set(0, 33);
+        rows.set(1, 1);
+        rows.paddle(1, PaddleRows.SAW, 499, 9, 0);
+        rows.paddle(4, PaddleRows.BOX, -200, 4, 1);
+        rows.gauge(2);
+        rows.level(4, 700);
+        rows.pass(8);
+        return rows;
+    }
+
+    private static void sixStates() {
+        PaddleRows rows = new PaddleRows();
+        for (int call = 1; call <= 9; call++) {
+            rows.level(call, call);
+            Due.due("changes", rows.count(12), Math.min(call, 6));
+        }
+        for (int left = 5; left >= 0; left--) {
+            Due.due("undo", rows.undo(), left);
+            Due.due("last cell", rows.count(7), 3 + left);
+        }
+        Due.due("undo of what was dropped", rows.undo(), -5);
+        Due.due("levels that stay", rows.places(2), 14);
+        rows.level(20, 1);
+        Due.due("changes", rows.count(12), 1);
+        Due.due("undo", rows.undo(), 0);
+        Due.due("levels that stay", rows.places(2), 14);
+    }
+
+    private static void changesThatAlterNothing() {
+        PaddleRows rows = new PaddleRows();
+        rows.set(0, 80);
+        rows.level(5, 0);
+        rows.paddle(3, 0, 1, 1, 0);
+        rows.paddle(3, 0, 1, 1, 0);
+        rows.again(3);
+        Due.due("changes", rows.count(12), 5);
+        Due.due("undo", rows.undo(), 4);
+        Due.due("undo", rows.undo(), 3);
+        Due.due("paddles", rows.count(1), 1);
+        Due.due("undo", rows.undo(), 2);
+        Due.due("paddles", rows.count(1), 0);
+    }
+
+    private static void errorsRecordNothing() {
+        PaddleRows rows = new PaddleRows();
+        rows.level(5, 1);
+        rows.set(0, -1);
+        rows.set(9, 0);
+        rows.paddle(36, 0, 0, 1, 0);
+        rows.paddle(0, 9, 0, 1, 0);
+        rows.lift(3);
+        rows.again(3);
+        rows.gauge(40);
+        rows.level(40, 0);
+        rows.level(0, 10000);
+        rows.pass(0);
+        rows.carryOut();
+        rows.restore(0);
+        rows.restore(2);
+        rows.save(2);
+        Due.due("changes", rows.count(12), 1);
+        Due.due("undo", rows.undo(), 0);
+        Due.due("level", rows.cell(5, 0), 10000);
+    }
+
+    private static void questionsRecordNothing() {
+        PaddleRows rows = new PaddleRows();
+        rows.paddle(3, 0, 1, 1, 0);
+        rows.cell(0, 0);
+        rows.ofPaddle(0, 0);
+        rows.places(0);
+        rows.reaches(0, 1);
+        rows.bestPeriod(0, 0, 1, 0);
+        rows.calmIn();
+        rows.put('x');
+        rows.fault();
+        rows.wipe();
+        rows.save(1);
+        Due.due("changes", rows.count(12), 1);
+    }
+
+    private static void whatUndoLeaves() {
+        PaddleRows rows = new PaddleRows();
+        rows.level(1, 1);
+        Tanks.write(rows, "x1");
+        rows.save(0);
+        rows.level(2, 2);
+        rows.save(1);
+        rows.undo();
+        rows.undo();
+        Due.due("the pad", rows.count(11), 2);
+        Due.due("the level", rows.places(2), 0);
+        Due.due("slot 1", rows.restore(1), 0);
+        Due.due("its levels", rows.places(2), 6);
+        Due.due("slot 0", rows.restore(0), 0);
+        Due.due("its levels", rows.places(2), 2);
+        Due.due("undo is no change", rows.count(12), 2);
+    }
+
+    private static void saving() {
+        PaddleRows rows = busyTank();
+        Due.due("changes", rows.count(12), 6);
+        Due.due("save", rows.save(0), 2);
+        rows.lift(4);
+        Due.due("save", rows.save(1), 1);
+        rows.lift(1);
+        Due.due("save in its place", rows.save(1), 0);
+        Due.due("restore", rows.restore(1), 0);
+        Due.due("restore", rows.restore(0), 2);
+        Due.due("all is as it was", seenWithoutHistory(rows), seenWithoutHistory(busyTank()));
+    }
+
+    private static void savingThatIsRefused() {
+        PaddleRows rows = new PaddleRows();
+        int[] wrong = {-1, 2, Integer.MIN_VALUE, Integer.MAX_VALUE};
+        for (int slot : wrong) {
+            Due.due("save(" + slot + ")", rows.save(slot), -2);
+        }
+        Due.due("restore(0)", rows.restore(0), -5);
+        Due.due("restore(1)", rows.restore(1), -5);
+        rows.save(1);
+        Due.due("restore(0)", rows.restore(0), -5);
+        Due.due("restore(1)", rows.restore(1), 0);
+    }
+
+    private static void restoring() {
+        PaddleRows rows = busyTank();
+        rows.save(1);
+        rows.set(0, 1);
+        rows.paddle(9, 0, 1, 1, 0);
+        rows.gauge(9);
+        rows.pass(7);
+        Tanks.write(rows, "g1");
+        PaddleRows twin = busyTank();
+        Tanks.write(twin, "g1");
+        Due.due("restore", rows.restore(1), 2);
+        Due.due("all but the history", seenWithoutHistory(rows), seenWithoutHistory(twin));
+        Due.due("restore is a change", rows.undo(), 5);
+        Due.due("paddles behind undo", rows.count(1), 3);
+        Due.due("steps behind undo", rows.count(0), 15);
+    }
+
+    private static void restoringThatIsRefused() {
+        PaddleRows rows = new PaddleRows();
+        int[] wrong = {-1, 2, Integer.MIN_VALUE, Integer.MAX_VALUE};
+        for (int slot : wrong) {
+            Due.due("restore(" + slot + ")", rows.restore(slot), -2);
+        }
+        Due.due("restore(0)", rows.restore(0), -5);
+        Due.due("changes", rows.count(12), 0);
+    }
+
+    private static void slotsStay() {
+        PaddleRows rows = new PaddleRows();
+        rows.paddle(3, PaddleRows.FLAT, 50, 1, 0);
+        rows.save(0);
+        rows.pass(3);
+        rows.restore(0);
+        rows.pass(5);
+        rows.lift(3);
+        Due.due("restore again", rows.restore(0), 1);
+        Due.due("steps", rows.count(0), 0);
+        Due.due("levels", rows.places(2), 0);
+        rows.undo();
+        rows.undo();
+        rows.undo();
+        rows.undo();
+        Due.due("steps", rows.count(0), 3);
+        Due.due("restore once more", rows.restore(0), 1);
+        Due.due("steps", rows.count(0), 0);
+    }
+}

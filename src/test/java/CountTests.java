@@ -2,7 +2,9 @@
 public final class CountTests {
     public static void main(String[] args) {
         crestsAndTroughs();
+        crestsBesideTheEnds();
         otherPlaces();
+        paddlesBesideCellZero();
         placesThatAreRefused();
         counts();
         sums();
@@ -31,6 +33,27 @@ public final class CountTests {
         }
     }
 
+    private static void crestsBesideTheEnds() {
+        PaddleRows rows = new PaddleRows();
+        rows.level(1, 5);
+        rows.level(38, -5);
+        Due.due("crest of 1", rows.places(0), 2);
+        Due.due("trough of 38", rows.places(1), 1L << 38);
+        rows.level(1, -5);
+        rows.level(38, 5);
+        Due.due("crest of 38", rows.places(0), 1L << 38);
+        Due.due("trough of 1", rows.places(1), 2);
+        rows.level(1, 0);
+        rows.level(38, 0);
+        int[] levels = {7, -7};
+        for (int level : levels) {
+            rows.level(0, level);
+            rows.level(39, level);
+            Due.due("no crest at the ends", rows.places(0), 0);
+            Due.due("no trough at the ends", rows.places(1), 0);
+        }
+    }
+
     private static void otherPlaces() {
         PaddleRows rows = new PaddleRows();
         rows.level(0, 1);
@@ -49,6 +72,16 @@ public final class CountTests {
         Due.due("cells of paddles that stopped", rows.places(4), 1L | 1L << 35);
         Due.due("paddles that stopped", rows.count(2), 2);
         Due.due("cells of paddles", rows.places(3), 1L | 1L << 31 | 1L << 35);
+    }
+
+    private static void paddlesBesideCellZero() {
+        PaddleRows rows = new PaddleRows();
+        Due.due("no paddles", rows.places(3), 0);
+        rows.paddle(2, 0, 9, 1, 0);
+        rows.level(2, 600);
+        rows.pass(1);
+        Due.due("cells of paddles", rows.places(3), 4);
+        Due.due("cells of paddles that stopped", rows.places(4), 4);
     }
 
     private static void placesThatAreRefused() {
@@ -95,6 +128,11 @@ public final class CountTests {
         Due.due("sum of levels", rows.count(4), 999800);
         Due.due("levels and speeds", rows.count(5), 800);
         Due.due("greatest level", rows.count(6), 150);
+        PaddleRows one = new PaddleRows();
+        one.level(0, -9);
+        Due.due("sum of cell 0", one.count(4), 999991);
+        Due.due("levels of cell 0", one.count(5), 9);
+        Due.due("greatest of cell 0", one.count(6), 9);
         PaddleRows full = new PaddleRows();
         for (int cell = 0; cell < 40; cell++) {
             full.level(cell, -9999);

@@ -5,6 +5,7 @@ public final class ForesightTests {
         reachingLate();
         reachesThatAreRefused();
         bestPeriods();
+        longestBestPeriod();
         bestPeriodOfAStoppedPaddle();
         bestPeriodsThatAreRefused();
         calming();
@@ -124,6 +125,17 @@ public final class ForesightTests {
         return best;
     }
 
+    /** In phase 59, a saw's push of step 0 is greatest with the period 60. */
+    private static void longestBestPeriod() {
+        PaddleRows rows = Tanks.lossless();
+        rows.paddle(5, PaddleRows.SAW, 900, 7, 59);
+        rows.level(3, 900);
+        Due.due("best period", rows.bestPeriod(0, 4, 1, 0), 60);
+        // (900 + 870) / 4
+        Due.due("its level", rows.bestPeriod(0, 4, 1, 1), 442);
+        Due.due("the period stays", rows.ofPaddle(0, 3), 7);
+    }
+
     /** Only the period is another one: a paddle that stopped stays as it is. */
     private static void bestPeriodOfAStoppedPaddle() {
         PaddleRows rows = new PaddleRows();
@@ -174,6 +186,9 @@ public final class ForesightTests {
         rows.level(20, 1);
         // too little to move its neighbours or itself
         Due.due("for ever", rows.calmIn(), -6);
+        rows.level(20, 0);
+        rows.level(0, 1);
+        Due.due("for ever at the end", rows.calmIn(), -6);
         PaddleRows moving = Tanks.lossless();
         moving.level(20, 4);
         moving.pass(1);
@@ -188,6 +203,9 @@ public final class ForesightTests {
         PaddleRows rows = new PaddleRows();
         rows.paddle(10, PaddleRows.FLAT, 500, 1, 0);
         Due.due("paddles do not count", rows.calmIn(), 0);
+        rows.set(PaddleRows.BEACH, 100);
+        rows.level(39, 3);
+        Due.due("calm in a step", rows.calmIn(), 1);
         Due.due("they are still there", rows.count(1), 1);
         Due.due("they still push", rows.reaches(10, 100), 1);
     }

@@ -6,10 +6,13 @@ public final class GaugeTests {
         noting();
         greatestAndLeast();
         rises();
+        riseOfTheOldestTwo();
         mostNotes();
+        oldestBesideLatest();
         severalGauges();
         askingThatIsRefused();
         undoneGauge();
+        restoredGauge();
         Due.finish();
     }
 
@@ -27,6 +30,11 @@ public final class GaugeTests {
             Due.due("its rises", rows.ofGauge(gauge, 4), 0);
         }
         Due.due("gauge is a change", rows.count(12), 4);
+        rows.pass(2);
+        for (int gauge = 0; gauge < 4; gauge++) {
+            Due.due("its notes", rows.ofGauge(gauge, 1), 2);
+            Due.due("its latest note", rows.noted(gauge, 0), 10000);
+        }
     }
 
     private static void refused() {
@@ -86,6 +94,31 @@ public final class GaugeTests {
             Due.due("noted", rows.noted(0, 0), 10000 + levels[i]);
             Due.due("rises at " + i, rows.ofGauge(0, 4), due[i]);
         }
+    }
+
+    private static void riseOfTheOldestTwo() {
+        PaddleRows rows = gaugeInTen();
+        passWith(rows, -1);
+        Due.due("rises of one", rows.ofGauge(0, 4), 0);
+        passWith(rows, 0);
+        Due.due("rises of two", rows.ofGauge(0, 4), 1);
+        passWith(rows, 0);
+        Due.due("rises of three", rows.ofGauge(0, 4), 1);
+    }
+
+    /** The latest note is not ahead of the oldest one. */
+    private static void oldestBesideLatest() {
+        PaddleRows rows = gaugeInTen();
+        for (int step = 0; step < 60; step++) {
+            passWith(rows, step == 59 ? -4 : 4);
+        }
+        Due.due("notes", rows.ofGauge(0, 1), 60);
+        Due.due("oldest", rows.noted(0, 59), 10004);
+        Due.due("latest", rows.noted(0, 0), 9996);
+        Due.due("rises", rows.ofGauge(0, 4), 0);
+        passWith(rows, 4);
+        Due.due("rises", rows.ofGauge(0, 4), 1);
+        Due.due("oldest", rows.noted(0, 59), 10004);
     }
 
     private static PaddleRows gaugeInTen() {
@@ -183,5 +216,36 @@ public final class GaugeTests {
         rows.gauge(5);
         Due.due("its cell", rows.ofGauge(0, 0), 5);
         Due.due("its notes", rows.ofGauge(0, 1), 0);
+    }
+
+    /** All 60 notes come back, and so does the cell; a gauge behind that begins without notes. */
+    private static void restoredGauge() {
+        PaddleRows rows = new PaddleRows();
+        rows.save(1);
+        rows.gauge(3);
+        rows.level(3, 900);
+        rows.pass(70);
+        int[] notes = new int[60];
+        for (int ago = 0; ago < 60; ago++) {
+            notes[ago] = rows.noted(0, ago);
+        }
+        rows.save(0);
+        rows.level(3, -900);
+        rows.pass(80);
+        Due.due("restore without gauges", rows.restore(1), 0);
+        Due.due("gauges", rows.count(3), 0);
+        Due.due("a new one", rows.gauge(5), 0);
+        Due.due("its notes", rows.ofGauge(0, 1), 0);
+        Due.due("its latest", rows.noted(0, 0), -1);
+        Due.due("restore with a gauge", rows.restore(0), 0);
+        Due.due("its cell", rows.ofGauge(0, 0), 3);
+        for (int ago = 0; ago < 60; ago++) {
+            Due.due("noted " + ago, rows.noted(0, ago), notes[ago]);
+        }
+        rows.pass(90);
+        rows.undo();
+        for (int ago = 0; ago < 60; ago++) {
+            Due.due("noted " + ago + " behind undo", rows.noted(0, ago), notes[ago]);
+        }
     }
 }

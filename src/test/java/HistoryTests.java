@@ -3,6 +3,7 @@ public final class HistoryTests {
     public static void main(String[] args) {
         everyChange();
         everythingIsUndone();
+        eachAloneIsUndone();
         sixStates();
         changesThatAlterNothing();
         errorsRecordNothing();
@@ -48,6 +49,45 @@ public final class HistoryTests {
         }
         Due.due("undo of nothing", rows.undo(), -5);
         Due.due("as it was", Tanks.seen(rows), Tanks.seen(new PaddleRows()));
+    }
+
+    /** What is undone is the one call, whichever it is, and none of those ahead of it. */
+    private static void eachAloneIsUndone() {
+        for (int kind = 0; kind < 9; kind++) {
+            PaddleRows rows = busyTank();
+            PaddleRows twin = busyTank();
+            rows.save(0);
+            rows.level(7, 70);
+            twin.level(7, 70);
+            Tanks.write(rows, "l9=5;g5");
+            Due.due("change " + kind, change(rows, kind) >= 0 ? 1 : 0, 1);
+            Due.due("undo of change " + kind, rows.undo(), 5);
+            rows.wipe();
+            Due.due("only change " + kind, seenWithoutHistory(rows), seenWithoutHistory(twin));
+        }
+    }
+
+    private static int change(PaddleRows rows, int kind) {
+        switch (kind) {
+            case 0:
+                return rows.set(1, 40);
+            case 1:
+                return rows.paddle(20, 1, 1, 1, 1);
+            case 2:
+                return rows.lift(1);
+            case 3:
+                return rows.again(4);
+            case 4:
+                return rows.gauge(30);
+            case 5:
+                return rows.level(7, -7);
+            case 6:
+                return rows.pass(5);
+            case 7:
+                return rows.carryOut();
+            default:
+                return rows.restore(0);
+        }
     }
 
     private static void everythingIsUndone() {

@@ -112,6 +112,14 @@ public final class PaddleTests {
         Due.due("rank left", rows.ofPaddle(3, 0), -1);
         Due.due("a new one", rows.paddle(7, 3, 1, 1, 1), 4);
         Due.due("its rank", rows.ofPaddle(1, 0), 7);
+        Due.due("another one", rows.paddle(25, 2, 5, 2, 2), 5);
+        Due.due("one more", rows.paddle(26, 1, 6, 3, 3), 6);
+        int[] all = {6, 7, 18, 24, 25, 26};
+        for (int rank = 0; rank < 6; rank++) {
+            Due.due("cell of all", rows.ofPaddle(rank, 0), all[rank]);
+        }
+        Due.due("sort of one", rows.ofPaddle(4, 1), 2);
+        Due.due("sort of the last", rows.ofPaddle(5, 1), 1);
         PaddleRows none = new PaddleRows();
         none.paddle(0, 0, 5, 1, 0);
         PaddleRows twin = new PaddleRows();

@@ -78,7 +78,7 @@ public final class TextTests {
     }
 
     private static void textsWithoutFault() {
-        String[] texts = {"p0f0/0", "p999t-999/999+999", "p12s5/6", "p12b5/6+7", "x0", "x999", "g10", "t99", "t0",
+        String[] texts = {"p0f0/0", "p999t-999/999+999", "p12s5/6", "p12b5/6+7", "p1f2/0+3", "x0", "x999", "g10", "t99", "t0",
             "l0=0", "l39=-0", "l999=-999", "l1=10", "x1;x2;x3", "p1f2/3+4;p1f2/3;g1;t1;l1=1;x1", "p1f2/3;x1"};
         for (String text : texts) {
             fault(text, -6);

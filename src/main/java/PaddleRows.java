@@ -13,6 +13,7 @@ public final class PaddleRows {
     private static final int MOST_SIGNS = 80, SIGNS_AT_ONCE = 8, LEAST_SIGN = 33, GREATEST_SIGN = 126;
     private static final int MOST_DIGITS = 3;
     private static final int MOST_UNDONE = 6, SLOTS = 2;
+    private static final int CREST = 0, TROUGH = 1, UNEVEN = 2, PADDLE = 3, STOPPED = 4, PLACES = 5;
     // What is added to an answer that may be below 0, so that it is not taken for an error.
     private static final int ABOVE_LEVELS = 10000, ABOVE_HEIGHTS = 1000, ABOVE_SUMS = 1000000;
 
@@ -159,20 +160,7 @@ public final class PaddleRows {
     }
 
     public long places(int what) {
-        switch (what) {
-            case 0:
-                return tank.crests();
-            case 1:
-                return tank.troughs();
-            case 2:
-                return tank.unevenCells();
-            case 3:
-                return tank.paddleCells();
-            case 4:
-                return tank.stoppedCells();
-            default:
-                return BAD_VALUE;
-        }
+        return isOutside(what, PLACES) ? BAD_VALUE : tank.cellsThatAre(what);
     }
 
     public int count(int what) {
@@ -182,7 +170,7 @@ public final class PaddleRows {
             case 1:
                 return tank.paddleCount;
             case 2:
-                return Long.bitCount(tank.stoppedCells());
+                return Long.bitCount(tank.cellsThatAre(STOPPED));
             case 3:
                 return tank.gaugeCount;
             case 4:
@@ -691,52 +679,32 @@ public final class PaddleRows {
             return true;
         }
 
-        long crests() {
+        long cellsThatAre(int what) {
             long cells = 0;
             for (int cell = 0; cell < CELLS; cell++) {
-                if (isCrest(cell)) {
+                if (isPlace(cell, what)) {
                     cells |= 1L << cell;
                 }
             }
             return cells;
         }
 
-        long troughs() {
-            long cells = 0;
-            for (int cell = 0; cell < CELLS; cell++) {
-                if (isTrough(cell)) {
-                    cells |= 1L << cell;
-                }
+        boolean isPlace(int cell, int what) {
+            int rank = rankIn(cell);
+            switch (what) {
+                case CREST:
+                    return isCrest(cell);
+                case TROUGH:
+                    return isTrough(cell);
+                case UNEVEN:
+                    return levels[cell] != 0;
+                case PADDLE:
+                    return rank >= 0;
+                case STOPPED:
+                    return rank >= 0 && !paddles[rank].goes;
+                default:
+                    return false;
             }
-            return cells;
-        }
-
-        long unevenCells() {
-            long cells = 0;
-            for (int cell = 0; cell < CELLS; cell++) {
-                if (levels[cell] != 0) {
-                    cells |= 1L << cell;
-                }
-            }
-            return cells;
-        }
-
-        long paddleCells() {
-            long cells = 0;
-            for (int rank = 0; rank < paddleCount; rank++) {
-                cells |= 1L << paddles[rank].cell;
-            }
-            return cells;
-        }
-
-        long stoppedCells() {
-            long cells = 0;
-            for (int rank = 0; rank < paddleCount; rank++) {
-                if (!paddles[rank].goes) {
-                    cells |= 1L << paddles[rank].cell;
-                }
-            }
-            return cells;
         }
 
         int sumOfLevels() {

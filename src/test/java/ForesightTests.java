@@ -211,8 +211,8 @@ public final class ForesightTests {
     }
 
     private static void nothingChanges() {
-        PaddleRows rows = busyTank();
-        PaddleRows twin = busyTank();
+        PaddleRows rows = Tanks.busy();
+        PaddleRows twin = Tanks.busy();
         rows.reaches(30, 100);
         rows.bestPeriod(0, 30, 99, 1);
         rows.bestPeriod(1, 30, 50, 0);
@@ -220,15 +220,5 @@ public final class ForesightTests {
         Due.due("nothing is different", Tanks.seen(rows), Tanks.seen(twin));
         Due.due("undo", rows.undo(), twin.undo());
         Due.due("level", rows.cell(2, 0), twin.cell(2, 0));
-    }
-
-    private static PaddleRows busyTank() {
-        PaddleRows rows = new PaddleRows();
-        rows.paddle(1, PaddleRows.SAW, 499, 9, 0);
-        rows.paddle(4, PaddleRows.BOX, -200, 4, 1);
-        rows.gauge(2);
-        rows.level(4, 700);
-        rows.pass(8);
-        return rows;
     }
 }

@@ -54,8 +54,8 @@ public final class HistoryTests {
     /** What is undone is the one call, whichever it is, and none of those ahead of it. */
     private static void eachAloneIsUndone() {
         for (int kind = 0; kind < 9; kind++) {
-            PaddleRows rows = busyTank();
-            PaddleRows twin = busyTank();
+            PaddleRows rows = Tanks.busy();
+            PaddleRows twin = Tanks.busy();
             rows.save(0);
             rows.level(7, 70);
             twin.level(7, 70);
@@ -91,8 +91,8 @@ public final class HistoryTests {
     }
 
     private static void everythingIsUndone() {
-        PaddleRows rows = busyTank();
-        PaddleRows twin = busyTank();
+        PaddleRows rows = Tanks.busy();
+        PaddleRows twin = Tanks.busy();
         rows.set(2, 1);
         rows.paddle(1, 0, 9, 9, 9);
         rows.lift(4);
@@ -113,18 +113,6 @@ public final class HistoryTests {
         int changes = seen.lastIndexOf(" c");
         int fault = seen.lastIndexOf(" f");
         return seen.substring(0, changes) + seen.substring(fault);
-    }
-
-    private static PaddleRows busyTank() {
-        PaddleRows rows = new PaddleRows();
-        rows.set(0, 33);
-        rows.set(1, 1);
-        rows.paddle(1, PaddleRows.SAW, 499, 9, 0);
-        rows.paddle(4, PaddleRows.BOX, -200, 4, 1);
-        rows.gauge(2);
-        rows.level(4, 700);
-        rows.pass(8);
-        return rows;
     }
 
     private static void sixStates() {
@@ -217,7 +205,7 @@ public final class HistoryTests {
     }
 
     private static void saving() {
-        PaddleRows rows = busyTank();
+        PaddleRows rows = Tanks.busy();
         Due.due("changes", rows.count(12), 6);
         Due.due("save", rows.save(0), 2);
         rows.lift(4);
@@ -226,7 +214,7 @@ public final class HistoryTests {
         Due.due("save in its place", rows.save(1), 0);
         Due.due("restore", rows.restore(1), 0);
         Due.due("restore", rows.restore(0), 2);
-        Due.due("all is as it was", seenWithoutHistory(rows), seenWithoutHistory(busyTank()));
+        Due.due("all is as it was", seenWithoutHistory(rows), seenWithoutHistory(Tanks.busy()));
     }
 
     private static void savingThatIsRefused() {
@@ -243,14 +231,14 @@ public final class HistoryTests {
     }
 
     private static void restoring() {
-        PaddleRows rows = busyTank();
+        PaddleRows rows = Tanks.busy();
         rows.save(1);
         rows.set(0, 1);
         rows.paddle(9, 0, 1, 1, 0);
         rows.gauge(9);
         rows.pass(7);
         Tanks.write(rows, "g1");
-        PaddleRows twin = busyTank();
+        PaddleRows twin = Tanks.busy();
         Tanks.write(twin, "g1");
         Due.due("restore", rows.restore(1), 2);
         Due.due("all but the history", seenWithoutHistory(rows), seenWithoutHistory(twin));

@@ -11,6 +11,19 @@ final class Tanks {
         return rows;
     }
 
+    /** A tank in motion, with a paddle that stopped, a gauge, and settings of its own. */
+    static PaddleRows busy() {
+        PaddleRows rows = new PaddleRows();
+        rows.set(PaddleRows.BEACH, 33);
+        rows.set(PaddleRows.LOSS, 1);
+        rows.paddle(1, PaddleRows.SAW, 499, 9, 0);
+        rows.paddle(4, PaddleRows.BOX, -200, 4, 1);
+        rows.gauge(2);
+        rows.level(4, 700);
+        rows.pass(8);
+        return rows;
+    }
+
     static long packed(String characters) {
         long number = 0;
         for (int i = 0; i < characters.length(); i++) {

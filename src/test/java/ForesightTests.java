@@ -3,13 +3,16 @@ public final class ForesightTests {
     public static void main(String[] args) {
         reaching();
         reachingLate();
+        reachingPastAStop();
         reachesThatAreRefused();
         bestPeriods();
+        firstAndLastStep();
         longestBestPeriod();
         bestPeriodOfAStoppedPaddle();
         bestPeriodsThatAreRefused();
         calming();
         neverCalm();
+        calmingSpeeds();
         calmingWithPaddles();
         nothingChanges();
         Due.finish();
@@ -61,6 +64,20 @@ public final class ForesightTests {
         Due.due("reached", rows.reaches(20, 113), 0);
     }
 
+    /** A paddle that will stop in the steps that are foreseen no longer pushes there, and goes on in the tank. */
+    private static void reachingPastAStop() {
+        PaddleRows rows = new PaddleRows();
+        rows.set(PaddleRows.HARD, 100);
+        rows.paddle(5, PaddleRows.SAW, 800, 4, 2);
+        rows.level(5, 101);
+        Due.due("no push", rows.reaches(5, 102), -6);
+        rows.level(5, 100);
+        // pushed to 0 first, and to 400 then: (0 + 0 - 800) / 4 is -200, less 2 hundredths -196
+        Due.due("a push", rows.reaches(5, 102), 2);
+        Due.due("the paddle goes", rows.count(2), 0);
+        Due.due("no step has passed", rows.count(0), 0);
+    }
+
     private static void reachesThatAreRefused() {
         PaddleRows rows = new PaddleRows();
         Due.due("reaches(-1, 1)", rows.reaches(-1, 1), -1);
@@ -97,6 +114,19 @@ public final class ForesightTests {
         high.level(20, -400);
         Due.due("without its sign", high.bestPeriod(0, 20, 1, 1), 204);
         Due.due("99 steps", high.bestPeriod(0, 20, 99, 0), 1);
+    }
+
+    /** The level behind the last of the steps counts, one behind a later step does not. */
+    private static void firstAndLastStep() {
+        PaddleRows rows = new PaddleRows();
+        rows.paddle(0, PaddleRows.FLAT, 400, 1, 0);
+        int first = rows.reaches(6, 1);
+        Due.due("no wave yet", rows.bestPeriod(0, 6, first - 1, 1), 0);
+        Due.due("a wave in the last step", rows.bestPeriod(0, 6, first, 1) > 0 ? 1 : 0, 1);
+        rows.level(39, 9999);
+        // 9999 - 9999 / 4, and that less 80 hundredths
+        Due.due("a level behind the first step", rows.bestPeriod(0, 39, 1, 1), 1510);
+        Due.due("of 99 steps the first", rows.bestPeriod(0, 39, 99, 1), 1510);
     }
 
     /** The period and the level that are found when each period is tried on a tank of its own. */
@@ -197,6 +227,35 @@ public final class ForesightTests {
         moving.level(21, 0);
         Due.due("all levels are 0", moving.places(2), 0);
         Due.due("but not all speeds", moving.calmIn(), -6);
+    }
+
+    /** Speeds count as levels do: the beach takes that of cell 39, another one lasts but for what brings it to 0. */
+    private static void calmingSpeeds() {
+        PaddleRows last = Tanks.lossless();
+        last.level(38, 1);
+        last.level(39, 5);
+        last.pass(1);
+        Due.due("speed of 39", Tanks.speed(last, 39), -1);
+        last.level(38, 0);
+        last.level(39, 0);
+        Due.due("levels and speeds", last.count(5), 1);
+        Due.due("no beach", last.calmIn(), -6);
+        last.set(PaddleRows.BEACH, 100);
+        Due.due("the beach takes the speed", last.calmIn(), 1);
+        PaddleRows beside = Tanks.lossless();
+        beside.level(38, 3);
+        beside.level(39, 2);
+        beside.pass(1);
+        Due.due("speed of 38", Tanks.speed(beside, 38), -1);
+        beside.level(38, 0);
+        beside.level(39, 0);
+        beside.set(PaddleRows.BEACH, 100);
+        Due.due("levels and speeds", beside.count(5), 1);
+        Due.due("the speed lasts", beside.calmIn(), -6);
+        beside.level(39, 4);
+        Due.due("the neighbour brings it to 0", beside.calmIn(), 1);
+        beside.pass(1);
+        Due.due("calm", beside.calmIn(), 0);
     }
 
     private static void calmingWithPaddles() {

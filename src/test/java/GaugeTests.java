@@ -6,7 +6,9 @@ public final class GaugeTests {
         noting();
         greatestAndLeast();
         rises();
+        risesBesideZero();
         riseOfTheOldestTwo();
+        notesBehindAllElse();
         mostNotes();
         oldestBesideLatest();
         severalGauges();
@@ -94,6 +96,37 @@ public final class GaugeTests {
             Due.due("noted", rows.noted(0, 0), 10000 + levels[i]);
             Due.due("rises at " + i, rows.ofGauge(0, 4), due[i]);
         }
+    }
+
+    /** From below 0 to 0 is a rise; from 0 up, or from below 0 to below 0, is none. */
+    private static void risesBesideZero() {
+        int[][] cases = {{-5, -1, 0}, {-2, -1, 0}, {-1, -1, 0}, {-1, 0, 1}, {-1, 1, 1}, {0, 0, 0}, {0, 1, 0}, {0, -1, 0},
+            {1, -1, 0}};
+        for (int[] row : cases) {
+            PaddleRows rows = gaugeInTen();
+            passWith(rows, row[0]);
+            passWith(rows, row[1]);
+            Due.due("rises from " + row[0] + " to " + row[1], rows.ofGauge(0, 4), row[2]);
+        }
+    }
+
+    /** A note is the level behind the beach and the move of the water, not the push. */
+    private static void notesBehindAllElse() {
+        PaddleRows rows = new PaddleRows();
+        rows.set(PaddleRows.BEACH, 100);
+        rows.set(PaddleRows.LOSS, 0);
+        rows.gauge(38);
+        rows.gauge(39);
+        rows.gauge(10);
+        rows.level(38, 400);
+        rows.level(39, 400);
+        rows.paddle(10, PaddleRows.FLAT, 200, 1, 0);
+        rows.pass(1);
+        // 400 - 400 / 4 is 300; the beach takes 300 * 300 / 400 of it
+        Due.due("noted in 38", rows.noted(0, 0), 10075);
+        Due.due("noted in 39", rows.noted(1, 0), 10000);
+        // 200 - 400 / 4
+        Due.due("noted in 10", rows.noted(2, 0), 10100);
     }
 
     private static void riseOfTheOldestTwo() {

@@ -63,7 +63,7 @@ public final class HistoryTests {
             Due.due("change " + kind, change(rows, kind) >= 0 ? 1 : 0, 1);
             Due.due("undo of change " + kind, rows.undo(), 5);
             rows.wipe();
-            Due.due("only change " + kind, seenWithoutHistory(rows), seenWithoutHistory(twin));
+            Due.due("only change " + kind, Tanks.seenWithoutHistory(rows), Tanks.seenWithoutHistory(twin));
         }
     }
 
@@ -102,17 +102,10 @@ public final class HistoryTests {
         for (int left = 5; left >= 0; left--) {
             Due.due("undo", rows.undo(), left);
         }
-        Due.due("all is as it was", seenWithoutHistory(rows), seenWithoutHistory(twin));
+        Due.due("all is as it was", Tanks.seenWithoutHistory(rows), Tanks.seenWithoutHistory(twin));
         rows.pass(2);
         twin.pass(2);
-        Due.due("it goes on from there", seenWithoutHistory(rows), seenWithoutHistory(twin));
-    }
-
-    private static String seenWithoutHistory(PaddleRows rows) {
-        String seen = Tanks.seen(rows);
-        int changes = seen.lastIndexOf(" c");
-        int fault = seen.lastIndexOf(" f");
-        return seen.substring(0, changes) + seen.substring(fault);
+        Due.due("it goes on from there", Tanks.seenWithoutHistory(rows), Tanks.seenWithoutHistory(twin));
     }
 
     private static void sixStates() {
@@ -214,7 +207,7 @@ public final class HistoryTests {
         Due.due("save in its place", rows.save(1), 0);
         Due.due("restore", rows.restore(1), 0);
         Due.due("restore", rows.restore(0), 2);
-        Due.due("all is as it was", seenWithoutHistory(rows), seenWithoutHistory(Tanks.busy()));
+        Due.due("all is as it was", Tanks.seenWithoutHistory(rows), Tanks.seenWithoutHistory(Tanks.busy()));
     }
 
     private static void savingThatIsRefused() {
@@ -241,7 +234,7 @@ public final class HistoryTests {
         PaddleRows twin = Tanks.busy();
         Tanks.write(twin, "g1");
         Due.due("restore", rows.restore(1), 2);
-        Due.due("all but the history", seenWithoutHistory(rows), seenWithoutHistory(twin));
+        Due.due("all but the history", Tanks.seenWithoutHistory(rows), Tanks.seenWithoutHistory(twin));
         Due.due("restore is a change", rows.undo(), 5);
         Due.due("paddles behind undo", rows.count(1), 3);
         Due.due("steps behind undo", rows.count(0), 15);

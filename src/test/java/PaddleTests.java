@@ -14,10 +14,14 @@ public final class PaddleTests {
         saw();
         box();
         tent();
+        roundingTowardZero();
+        shortestPeriods();
+        longestPeriods();
         phases();
         pushingInAStep();
         pushTakesTheLevelsPlace();
         stopping();
+        stoppingInSeveralSteps();
         stoppedPaddles();
         Due.finish();
     }
@@ -195,6 +199,37 @@ public final class PaddleTests {
         pushes(PaddleRows.TENT, 5, 1, 0, new int[] {-5, -5});
     }
 
+    private static void roundingTowardZero() {
+        pushes(PaddleRows.SAW, 7, 5, 0, new int[] {-7, -4, -1, 1, 4});
+        pushes(PaddleRows.SAW, -7, 5, 0, new int[] {7, 4, 1, -1, -4});
+        pushes(PaddleRows.SAW, -1, 60, 0, new int[] {1, 0, 0});
+        pushes(PaddleRows.TENT, 7, 5, 0, new int[] {-7, -1, 4, 4, -1});
+        pushes(PaddleRows.TENT, -7, 5, 0, new int[] {7, 1, -4, -4, 1});
+        pushes(PaddleRows.TENT, 1, 60, 0, new int[] {-1, 0, 0});
+    }
+
+    private static void shortestPeriods() {
+        pushes(PaddleRows.FLAT, 5, 1, 59, new int[] {5, 5, 5});
+        pushes(PaddleRows.SAW, 5, 1, 59, new int[] {-5, -5, -5});
+        pushes(PaddleRows.BOX, 5, 1, 59, new int[] {5, 5, 5});
+        pushes(PaddleRows.TENT, 5, 1, 59, new int[] {-5, -5, -5});
+        pushes(PaddleRows.SAW, 5, 2, 0, new int[] {-5, 0, -5, 0});
+        pushes(PaddleRows.BOX, 5, 2, 0, new int[] {5, -5, 5, -5});
+        pushes(PaddleRows.TENT, 5, 2, 0, new int[] {-5, 5, -5, 5});
+    }
+
+    /** Where the period ends: t is 58, 59, and 0 again; and where its half ends: 29, 30, 31. */
+    private static void longestPeriods() {
+        pushes(PaddleRows.SAW, 60, 60, 58, new int[] {56, 58, -60, -58});
+        pushes(PaddleRows.BOX, 60, 60, 58, new int[] {-60, -60, 60, 60});
+        pushes(PaddleRows.TENT, 60, 60, 58, new int[] {-52, -56, -60, -56});
+        pushes(PaddleRows.SAW, 60, 60, 29, new int[] {-2, 0, 2});
+        pushes(PaddleRows.BOX, 60, 60, 29, new int[] {60, -60, -60});
+        pushes(PaddleRows.TENT, 60, 60, 29, new int[] {56, 60, 56});
+        pushes(PaddleRows.SAW, 999, 60, 59, new int[] {999 * 58 / 60, -999});
+        pushes(PaddleRows.TENT, -999, 60, 30, new int[] {-999, -999 * 56 / 60});
+    }
+
     private static void phases() {
         pushes(PaddleRows.SAW, 100, 4, 1, new int[] {-50, 0, 50, -100});
         pushes(PaddleRows.SAW, 100, 4, 59, new int[] {50, -100, -50, 0});
@@ -253,6 +288,28 @@ public final class PaddleTests {
         rows.paddle(7, PaddleRows.FLAT, 100, 1, 0);
         rows.pass(1);
         Due.due("a paddle that stops does not push", Tanks.level(rows, 7), 300);
+    }
+
+    /** The ones that stop are counted over all the steps of a pass, each one once. */
+    private static void stoppingInSeveralSteps() {
+        PaddleRows rows = Tanks.lossless();
+        rows.set(PaddleRows.HARD, 100);
+        rows.paddle(5, PaddleRows.FLAT, 0, 1, 0);
+        rows.paddle(15, PaddleRows.FLAT, 0, 1, 0);
+        rows.paddle(25, PaddleRows.FLAT, 0, 1, 0);
+        rows.level(15, -101);
+        // a quarter of this comes to 25 in the first step, so that it stops in the second
+        rows.level(26, 404);
+        Due.due("pass of 2", rows.pass(2), 2);
+        Due.due("those that stopped", rows.places(4), 1L << 15 | 1L << 25);
+        rows.undo();
+        Due.due("pass of 1", rows.pass(1), 1);
+        Due.due("level of 25", Tanks.level(rows, 25), 101);
+        Due.due("pass of another", rows.pass(1), 1);
+        rows.undo();
+        rows.undo();
+        rows.level(26, 400);
+        Due.due("pass of 2, no farther than HARD", rows.pass(2), 1);
     }
 
     private static void stoppedPaddles() {

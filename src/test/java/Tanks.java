@@ -71,4 +71,11 @@ final class Tanks {
         }
         return all.append(" f").append(rows.fault()).toString();
     }
+
+    static String seenWithoutHistory(PaddleRows rows) {
+        String seen = seen(rows);
+        int changes = seen.lastIndexOf(" c");
+        int fault = seen.lastIndexOf(" f");
+        return seen.substring(0, changes) + seen.substring(fault);
+    }
 }

@@ -12,6 +12,9 @@ public final class TextTests {
         sortsOfPaddles();
         stoppingAtAnError();
         ordersThatFail();
+        ordersTooMany();
+        edgesOfNumbers();
+        mostOrders();
         carryingOutThatIsRefused();
         carryingOutNothing();
         oneChange();
@@ -177,15 +180,41 @@ public final class TextTests {
             Tanks.write(rows, text + ";l1=1");
             Due.due("fault of " + text, rows.fault(), -6);
             Due.due("carryOut of " + text, rows.carryOut(), 0);
-            Due.due("nothing behind " + text, rows.places(2), 0);
-            Due.due("length behind " + text, rows.count(11), 0);
-            Due.due("changes behind " + text, rows.count(12), 1);
+            PaddleRows twin = new PaddleRows();
+            twin.set(PaddleRows.BEACH, 80);
+            Due.due("nothing but a change behind " + text, Tanks.seen(rows), Tanks.seen(twin));
         }
+    }
+
+    private static void ordersTooMany() {
         PaddleRows rows = new PaddleRows();
-        Tanks.write(rows, "g1;g1;g1;g1;g1;g1");
+        PaddleRows twin = new PaddleRows();
+        Tanks.write(rows, "g1;g1;g1;g1;g1;l1=1");
         Due.due("too many gauges", rows.carryOut(), 4);
-        Tanks.write(rows, "p0f1/1;p1f1/1;p2f1/1;p3f1/1;p4f1/1;p5f1/1;p5f2/1;p6f1/1");
+        Tanks.write(rows, "p0f1/1;p1f1/1;p2f1/1;p3f1/1;p4f1/1;p5f1/1;p5f2/1;p6f1/1;p5f3/1");
         Due.due("too many paddles", rows.carryOut(), 7);
+        Tanks.write(twin, "g1;g1;g1;g1");
+        twin.carryOut();
+        Tanks.write(twin, "p0f1/1;p1f1/1;p2f1/1;p3f1/1;p4f1/1;p5f2/1");
+        twin.carryOut();
+        Due.due("nothing of those too many", Tanks.seen(rows), Tanks.seen(twin));
+    }
+
+    private static void edgesOfNumbers() {
+        PaddleRows rows = new PaddleRows();
+        Tanks.write(rows, "l0=999;l1=-999;l2=0;l3=-0;l39=1;p0f-999/1;p35b999/60+59;g0;g39;t1;t99");
+        Due.due("carryOut", rows.carryOut(), 11);
+        PaddleRows twin = new PaddleRows();
+        twin.level(0, 999);
+        twin.level(1, -999);
+        twin.level(39, 1);
+        twin.paddle(0, PaddleRows.FLAT, -999, 1, 0);
+        twin.paddle(35, PaddleRows.BOX, 999, 60, 59);
+        twin.gauge(0);
+        twin.gauge(39);
+        twin.pass(1);
+        twin.pass(99);
+        Due.due("all but the history", Tanks.seenWithoutHistory(rows), Tanks.seenWithoutHistory(twin));
     }
 
     private static void carryingOutThatIsRefused() {
@@ -222,6 +251,28 @@ public final class TextTests {
         Due.due("undo", rows.undo(), 0);
         Due.due("levels", rows.places(2), 0);
         Due.due("the pad stays", rows.count(11), 2);
+    }
+
+    /** The most orders of the most steps that a pad holds. */
+    private static void mostOrders() {
+        PaddleRows rows = new PaddleRows();
+        StringBuilder text = new StringBuilder("t99");
+        for (int order = 1; order < 20; order++) {
+            text.append(";t99");
+        }
+        Due.due("put", Tanks.write(rows, text.toString()), 79);
+        Due.due("carryOut", rows.carryOut(), 20);
+        Due.due("steps", rows.count(0), 1980);
+        text.setLength(0);
+        text.append("g0");
+        for (int order = 1; order < 26; order++) {
+            text.append(";x9");
+        }
+        Due.due("put", Tanks.write(rows, text.toString()), 77);
+        Due.due("put", Tanks.write(rows, ";t7"), 80);
+        Due.due("carryOut up to the first error", rows.carryOut(), 1);
+        Due.due("gauges", rows.count(3), 1);
+        Due.due("steps", rows.count(0), 1980);
     }
 
     private static void longestTexts() {

@@ -13,6 +13,8 @@ public final class WaterTests {
         loss();
         beach();
         beachRounding();
+        beachOfEachCell();
+        lossBesideZero();
         bounds();
         passing();
         passingThatIsRefused();
@@ -190,6 +192,38 @@ public final class WaterTests {
         water(rows, 37, 25, 25);
     }
 
+    /** Still water of one level from 30 on: nothing moves but what the beach takes. */
+    private static void beachOfEachCell() {
+        int[][] cases = {{100, 1000, 1000, 750, 500, 250, 0}, {80, 1000, 1000, 800, 600, 400, 200},
+            {100, -999, -999, -750, -500, -250, 0}, {1, 399, 399, 399, 398, 397, 396}, {0, 999, 999, 999, 999, 999, 999},
+            {1, -9999, -9999, -9975, -9950, -9925, -9900}};
+        for (int[] row : cases) {
+            PaddleRows rows = new PaddleRows();
+            rows.set(PaddleRows.BEACH, row[0]);
+            for (int cell = 30; cell < 40; cell++) {
+                rows.level(cell, row[1]);
+            }
+            rows.pass(1);
+            for (int cell = 35; cell < 40; cell++) {
+                water(rows, cell, row[cell - 33], 0);
+            }
+        }
+    }
+
+    private static void lossBesideZero() {
+        // {LOSS, a level whose quarter is the speed, the speed behind the loss}
+        int[][] cases = {{50, 4, 1}, {50, 8, 1}, {50, -4, -1}, {50, -8, -1}, {50, 12, 2}, {0, 12, 3}, {1, 396, 99},
+            {1, 400, 99}, {2, 196, 49}, {2, 200, 49}, {2, -196, -49}, {2, -200, -49}};
+        for (int[] row : cases) {
+            PaddleRows rows = new PaddleRows();
+            rows.set(PaddleRows.LOSS, row[0]);
+            rows.level(20, row[1]);
+            rows.pass(1);
+            water(rows, 19, row[2], row[2]);
+            water(rows, 21, row[2], row[2]);
+        }
+    }
+
     private static void bounds() {
         PaddleRows rows = Tanks.lossless();
         rows.level(9, 9999);
@@ -262,9 +296,25 @@ public final class WaterTests {
         Due.due("steps at the bound", rows.count(0), 99999);
         Due.due("pass(1) beyond it", rows.pass(1), -5);
         Due.due("reaches beyond it", rows.reaches(0, 1), -6);
+        Due.due("carryOut to it", textBeyondTheBound(rows), 1);
         rows.level(0, 9999);
         Due.due("reaches beyond it", rows.reaches(1, 1), 1);
+        rows.paddle(5, PaddleRows.FLAT, 400, 1, 0);
+        Due.due("bestPeriod beyond it", rows.bestPeriod(0, 5, 1, 1), 204);
+        rows.lift(5);
+        rows.level(0, 0);
+        rows.set(PaddleRows.BEACH, 100);
+        rows.level(39, 3);
+        Due.due("calmIn beyond it", rows.calmIn(), 1);
         Due.due("steps stay", rows.count(0), 99999);
+    }
+
+    /** An order that would go beyond the bound of steps ends the carrying out. */
+    private static int textBeyondTheBound(PaddleRows rows) {
+        Tanks.write(rows, "l39=0;t1;l30=5");
+        int carried = rows.carryOut();
+        Due.due("level behind the order that failed", rows.cell(30, 0), 10000);
+        return carried;
     }
 
     private static void water(PaddleRows rows, int cell, int level, int speed) {
